@@ -612,17 +612,14 @@ public final class ConstantKinds {
             super(label);
         }
 
-        @Override
         int familyNumber() {
             return PLAIN_FAMILY;
         }
 
-        @Override
         int bodyNumber() {
             return PLAIN;
         }
 
-        @Override
         int worthFor(int v) {
             return v + label.firstOrder;
         }
@@ -633,17 +630,14 @@ public final class ConstantKinds {
             super(label);
         }
 
-        @Override
         int familyNumber() {
             return TWICE_FAMILY;
         }
 
-        @Override
         int bodyNumber() {
             return TWICE;
         }
 
-        @Override
         int worthFor(int v) {
             return 2 * (v + label.firstOrder);
         }
@@ -654,17 +648,14 @@ public final class ConstantKinds {
             super(label);
         }
 
-        @Override
         int familyNumber() {
             return LESS_FAMILY;
         }
 
-        @Override
         int bodyNumber() {
             return LESS;
         }
 
-        @Override
         int worthFor(int v) {
             return super.worthFor(v) - 3;
         }
@@ -682,7 +673,6 @@ public final class ConstantKinds {
             return isIn(i, 0, items.length - 1);
         }
 
-        @Override
         int familyNumber() {
             return ROW_FAMILY;
         }
@@ -710,7 +700,6 @@ public final class ConstantKinds {
             return has(p) && shape.sorts[p] == NUMBER_SORT;
         }
 
-        @Override
         int familyNumber() {
             return RECORD_FAMILY;
         }

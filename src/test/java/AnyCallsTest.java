@@ -23,7 +23,7 @@ public final class AnyCallsTest {
             oneRun(run, random, answered);
         }
         for (int method = 0; method < METHODS; method++) {
-            Due.yes("method " + method + " was answered often, not only refused: " + answered[method], answered[method] > 100);
+            Due.yes("method " + method + " was answered often: " + answered[method], answered[method] > 100);
         }
         Due.end();
     }
@@ -43,7 +43,7 @@ public final class AnyCallsTest {
         }
         ConstantKinds y = new ConstantKinds();
         for (int i = 0; i < kept.size(); i++) {
-            Due.same("run " + run + ", " + kept.get(i) + " without the refused calls", ask(y, kept.get(i)), answers.get(i));
+            Due.same("run " + run + ", " + kept.get(i) + " again", ask(y, kept.get(i)), answers.get(i));
         }
         Due.yes("run " + run + ": both objects tell the same", tell(x).equals(tell(y)));
     }

@@ -18,6 +18,7 @@ public final class ConstantsTest {
         promise4Shuffle();
         promise4Bad();
         promise5Kind();
+        promise5FullKind();
         promise6Named();
         promise7Order();
         promise8About();
@@ -195,6 +196,18 @@ public final class ConstantsTest {
         for (int build : WRONG_BUILDS) {
             Due.same("build " + build, x.kind(5, build, NONE), BAD);
         }
+    }
+
+    private static void promise5FullKind() {
+        ConstantKinds x = arranged(60, 1);
+        for (int build = 0; build <= 1; build++) {
+            Due.same("length", x.kind(2, build, NONE), 60);
+            Due.same("last", x.kind(2, build, 59), build == 0 ? 59 : 0);
+            Due.same("behind the last", x.kind(2, build, 60), BAD);
+            Due.same("behind the last", x.kind(2, build, 61), BAD);
+        }
+        Due.same("all are in it", x.arrange(59, 1), BAD);
+        Due.same("no such name", x.named(2, Due.name("zz")), NONE);
     }
 
     private static void promise6Named() {

@@ -21,7 +21,7 @@ public final class FaceTest {
     private static final String[] RULED_OUT = {
         "\\bthrow\\b", "\\btry\\b", "\\bcatch\\b", "\\bsynchronized\\b", "\\bassert\\b", "->", "::", "\\bimport\\b",
         "\\bpackage\\b", "\\bObject\\b", "Exact\\b", "\\bSystem\\.(?!arraycopy)", "\\bequals\\b", "\\bhashCode\\b",
-        "\\btoString\\b", "\\bstatic\\s*\\{"};
+        "\\btoString\\b", "\\bstatic\\s*\\{", "@"};
 
     public static void main(String[] args) throws IOException {
         publicMembers();
