@@ -45,7 +45,7 @@ public final class AnyCallsTest {
         for (int i = 0; i < kept.size(); i++) {
             Due.same("run " + run + ", " + kept.get(i) + " again", ask(y, kept.get(i)), answers.get(i));
         }
-        Due.yes("run " + run + ": both objects tell the same", tell(x).equals(tell(y)));
+        Due.yes("run " + run + ": both objects tell the same", State.of(x).equals(State.of(y)));
     }
 
     private static Call anyCall(Random random, int i) {
@@ -100,42 +100,5 @@ public final class AnyCallsTest {
 
     private static boolean isRefused(int method, int answer) {
         return answer == BAD || answer == FULL || method == 10 && answer == NONE;
-    }
-
-    private static List<Integer> tell(ConstantKinds x) {
-        List<Integer> told = new ArrayList<>();
-        for (int what = 0; what <= 5; what++) {
-            told.add(x.count(what));
-            told.add(x.started(what));
-        }
-        told.add(x.cause(0));
-        told.add(x.cause(1));
-        for (int kind = 0; kind < 4; kind++) {
-            for (int build = 0; build < 3; build++) {
-                told.add(x.kind(kind, build, NONE));
-                told.add(x.kind(kind, build, 0));
-                told.add(x.table(kind, build));
-            }
-        }
-        for (int constant = 0; constant < 12; constant++) {
-            told.add(x.about(constant, 2));
-            told.add(x.about(constant, 3));
-            told.add(x.order(constant, 1));
-        }
-        for (int place = 0; place < 10; place++) {
-            told.add(x.family(place));
-            told.add(x.like(place, 9 - place));
-            told.add(x.item(place, 0, 7));
-            for (int p = -3; p <= 4; p++) {
-                told.add(x.told(place, p));
-            }
-        }
-        for (int shape = 0; shape < 6; shape++) {
-            told.add(x.make(shape, 9));
-            told.add(x.cause(1));
-            told.add(x.check(shape, 0, 0, 0));
-            told.add(x.part(shape, 0, 0));
-        }
-        return told;
     }
 }
