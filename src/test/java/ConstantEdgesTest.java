@@ -185,7 +185,8 @@ public final class ConstantEdgesTest {
     /** named(): "NONE. BAD: KIND" alone, whatever the NAME. */
     private static void namedTellsNoneForNoName() {
         ConstantKinds x = oneOfEachKind();
-        long[] names = {0, 1, -1, A - 1, A + 1, A << 8, A | A << 32, A | Long.MIN_VALUE, Long.MIN_VALUE, Long.MAX_VALUE};
+        long[] names = {0, 1, -1, A - 1, A + 1, A << 8, A | A << 32, A | Long.MIN_VALUE, Long.MIN_VALUE,
+            Long.MAX_VALUE};
         for (long name : names) {
             Due.same("named " + name, x.named(5, name), NONE);
             Due.same("named " + name + " in no KIND", x.named(6, name), BAD);
